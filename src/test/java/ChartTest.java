@@ -4,6 +4,7 @@ public final class ChartTest {
         situations();
         ringsOfLines();
         theChartLooksFromTheBeginning();
+        nothingStaysOfAnEarlierScript();
         fewestChoices();
         leastWay();
         leastWayAmongDetours();
@@ -56,6 +57,28 @@ public final class ChartTest {
         Due.is("choicesTo(1) in the new script", x.choicesTo(1), Due.NONE);
         Due.way(x, 3);
         Due.is("situations of the new script", x.situations(-1), 1);
+    }
+
+    private static void nothingStaysOfAnEarlierScript() {
+        PictureScript x = Due.played("c1,3;f0+;j0;f1+;e3;");
+        Due.way(x, 3, 1);
+        Due.write(x, "c1?0,2;e5;t1 5;t0 5;e6;e7;");
+        x.read();
+        Due.is("a flag of the script before", x.choicesTo(5), Due.NONE);
+        Due.way(x, 6, 1);
+        Due.is("another flag of the script before", x.choicesTo(7), Due.NONE);
+        Due.is("an end of the script before", x.choicesTo(3), Due.NONE);
+        Due.is("usable(0, 0)", x.usable(0, 0), 0);
+        Due.is("situations(-1)", x.situations(-1), 2);
+        Due.write(x, "t0 3;t1 3;e1;e2;");
+        x.read();
+        Due.way(x, 1);
+        Due.is("situations(-1) of the third", x.situations(-1), 1);
+        PictureScript y = Due.played("f0+;c0;");
+        Due.write(y, "e1;c2;e2;");
+        y.read();
+        Due.is("behind a choice of the script before", y.choicesTo(2), Due.NONE);
+        Due.is("situations(-1) there", y.situations(-1), 1);
     }
 
     private static void fewestChoices() {

@@ -2,6 +2,7 @@
 public final class MovesTest {
     public static void main(String[] args) {
         begin();
+        beginFromAnywhere();
         go();
         portraitsMove();
         flagsAndTests();
@@ -38,6 +39,23 @@ public final class MovesTest {
         Due.is("saved stays", x.count(4), 1);
         Due.is("again behind begin", x.again(), Due.STATE);
         Due.is("back behind begin", x.back(1), Due.STATE);
+    }
+
+    private static void beginFromAnywhere() {
+        PictureScript x = Due.played("sa0;f0+;pa0 1;f1+;sb1;t0 0;e1;");
+        x.go();
+        x.save(0);
+        x.restore(0);
+        Due.is("begin from a moment with flags", x.begin(), 0);
+        Due.is("flags then", x.shown(4), 0);
+        Due.portraits("then", x, Due.NONE, Due.NONE, Due.NONE, Due.NONE, Due.NONE, Due.NONE);
+        for (int i = 0; i < 30; i++) {
+            x.go();
+        }
+        Due.is("begin when the first moment is forgotten", x.begin(), 0);
+        Due.is("flags then", x.shown(4), 0);
+        Due.portraits("then", x, Due.NONE, Due.NONE, Due.NONE, Due.NONE, Due.NONE, Due.NONE);
+        Due.moments("then", x, 1, 0);
     }
 
     private static void go() {

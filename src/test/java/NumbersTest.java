@@ -97,7 +97,7 @@ public final class NumbersTest {
         PictureScript x = new PictureScript();
         Due.is("digest of a new object", x.digest(), 1750736831227128690L);
         Due.is("digest by its words", digestOf(x, ""), 1750736831227128690L);
-        String text = "sa0;pc1 2;c0,3?1,29;f0+;e1;";
+        String text = "sa0;pc1 4;c0,3?1,29;f0+;e1;";
         Due.write(x, text);
         Due.is("digest with a text", x.digest(), digestOf(x, text));
         x.read();
@@ -112,7 +112,7 @@ public final class NumbersTest {
     }
 
     private static void callsThatOnlyTell() {
-        String text = "sa0;pc1 2;c0,3?1,29;f0+;e1;";
+        String text = "sa0;pc1 4;c0,3?1,29;f0+;e1;";
         PictureScript x = Due.played(text);
         x.go();
         x.back(1);
@@ -133,7 +133,7 @@ public final class NumbersTest {
     }
 
     private static void callsThatAreRefused() {
-        PictureScript x = Due.played("sa0;pc1 2;c0,3?1,29;f0+;e1;");
+        PictureScript x = Due.played("sa0;pc1 4;c0,3?1,29;f0+;e1;");
         x.go();
         Due.write(x, "z".repeat(100));
         long before = x.digest();
