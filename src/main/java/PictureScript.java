@@ -720,7 +720,7 @@ public final class PictureScript {
         }
 
         Moment now() {
-            return moments[present];
+            return moments[present >= 0 && present < MOMENTS ? present : 0];
         }
 
         void startScript(Script script) {

@@ -59,36 +59,10 @@ public final class NumbersTest {
         Due.is("30 once more", x.count(3), 5);
     }
 
-    /** The digest put together from the answers of all the other calls. */
     private static long digestOf(PictureScript x, String text) {
         long h = 163;
-        for (int what = 0; what <= 6; what++) {
-            h = 31 * h + x.count(what);
-        }
-        for (int what = 0; what <= 5; what++) {
-            h = 31 * h + x.shown(what);
-        }
-        for (int place = 0; place < 3; place++) {
-            h = 31 * h + x.portrait(place, false);
-            h = 31 * h + x.portrait(place, true);
-        }
-        for (int node = 0; node < x.count(0); node++) {
-            for (int what = 0; what <= 3; what++) {
-                h = 31 * h + x.node(node, what);
-            }
-            for (int option = 0; x.node(node, 0) == 6 && option < x.node(node, 1); option++) {
-                for (int what = 0; what <= 2; what++) {
-                    h = 31 * h + x.option(node, option, what);
-                }
-                h = 31 * h + x.usable(node, option);
-            }
-        }
-        h = 31 * h + x.situations(-1);
-        for (int end : new int[] {-3, -2, 0, 1, 2, 3, 4, 5, 6, 7, 8, 9}) {
-            h = 31 * h + x.choicesTo(end);
-        }
-        for (int i = 0; i < text.length(); i++) {
-            h = 31 * h + text.charAt(i);
+        for (int v : Due.numbersOfDigest(x, text)) {
+            h = 31 * h + v;
         }
         return h;
     }

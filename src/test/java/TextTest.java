@@ -65,184 +65,171 @@ public final class TextTest {
         Due.is("the script stays", x.shown(3), 2);
     }
 
-    private static void fault(String text, int due) {
-        PictureScript x = Due.withText(text);
-        Due.is("fault of \"" + text + "\"", x.fault(), due);
-        Due.is("length behind fault of \"" + text + "\"", x.count(6), text.length());
-        if (due != Due.NONE) {
-            Due.is("read of \"" + text + "\"", x.read(), Due.STATE);
-        }
-    }
-
-    private static void good(String text) {
-        fault(text, Due.NONE);
-    }
-
     private static void emptyTexts() {
-        good("");
-        good(" ");
-        good(" ".repeat(100));
-        fault(";", 0);
-        fault(" ;", 1);
-        good("e1;  ");
-        good("  e1;");
-        fault("e1;;", 3);
-        fault("e1; ;", 4);
+        Due.good("");
+        Due.good(" ");
+        Due.good(" ".repeat(100));
+        Due.fault(";", 0);
+        Due.fault(" ;", 1);
+        Due.good("e1;  ");
+        Due.good("  e1;");
+        Due.fault("e1;;", 3);
+        Due.fault("e1; ;", 4);
     }
 
     private static void lines() {
-        good("sa5;");
-        good("sf99;");
-        good("sb00;");
-        good(" s a 5 ; ");
-        good("s a 12;sb3;");
-        fault("sg5;", 1);
-        fault("sA5;", 1);
-        fault("s5;", 1);
-        fault("s", 1);
-        fault("sa", 2);
-        fault("sa;", 2);
-        fault("sa ", 3);
-        fault("sa5", 3);
-        fault("sa5 ", 4);
-        fault("sa55", 4);
-        fault("sa123;", 4);
-        fault("sa1 2;", 4);
-        fault("sa12 3;", 5);
-        fault("sa5,", 3);
-        fault("sab5;", 2);
-        fault("sa-5;", 2);
+        Due.good("sa5;");
+        Due.good("sf99;");
+        Due.good("sb00;");
+        Due.good(" s a 5 ; ");
+        Due.good("s a 12;sb3;");
+        Due.fault("sg5;", 1);
+        Due.fault("sA5;", 1);
+        Due.fault("s5;", 1);
+        Due.fault("s", 1);
+        Due.fault("sa", 2);
+        Due.fault("sa;", 2);
+        Due.fault("sa ", 3);
+        Due.fault("sa5", 3);
+        Due.fault("sa5 ", 4);
+        Due.fault("sa55", 4);
+        Due.fault("sa123;", 4);
+        Due.fault("sa1 2;", 4);
+        Due.fault("sa12 3;", 5);
+        Due.fault("sa5,", 3);
+        Due.fault("sab5;", 2);
+        Due.fault("sa-5;", 2);
     }
 
     private static void portraits() {
-        good("pa0 0;");
-        good("pf2 4;");
-        good("p c 1   3 ;");
-        fault("pg0 0;", 1);
-        fault("pa3 0;", 2);
-        fault("pa0 5;", 4);
-        fault("pa03;", 3);
-        fault("pa09;", 3);
-        fault("pa0 34;", 5);
-        fault("pa0 3 4;", 6);
-        fault("pa0;", 3);
-        fault("pa0 ;", 4);
-        fault("pa0", 3);
-        good("ha;");
-        good("h f ;");
-        fault("hg;", 1);
-        fault("h;", 1);
-        fault("ha", 2);
-        fault("ha1;", 2);
+        Due.good("pa0 0;");
+        Due.good("pf2 4;");
+        Due.good("p c 1   3 ;");
+        Due.fault("pg0 0;", 1);
+        Due.fault("pa3 0;", 2);
+        Due.fault("pa0 5;", 4);
+        Due.fault("pa03;", 3);
+        Due.fault("pa09;", 3);
+        Due.fault("pa0 34;", 5);
+        Due.fault("pa0 3 4;", 6);
+        Due.fault("pa0;", 3);
+        Due.fault("pa0 ;", 4);
+        Due.fault("pa0", 3);
+        Due.good("ha;");
+        Due.good("h f ;");
+        Due.fault("hg;", 1);
+        Due.fault("h;", 1);
+        Due.fault("ha", 2);
+        Due.fault("ha1;", 2);
     }
 
     private static void flagsAndEnds() {
-        good("f0+;");
-        good("f5-;");
-        good("f 3 + ;");
-        fault("f6+;", 1);
-        fault("f60;", 1);
-        fault("f12+;", 2);
-        fault("f1;", 2);
-        fault("f1 2", 3);
-        fault("f1+-;", 3);
-        fault("f1+", 3);
-        fault("f1?;", 2);
-        fault("f+;", 1);
-        good("e0;");
-        good("e9;");
-        good("e 4 ;");
-        fault("e12;", 2);
-        fault("e1 2;", 3);
-        fault("e;", 1);
-        fault("e", 1);
-        fault("e1", 2);
+        Due.good("f0+;");
+        Due.good("f5-;");
+        Due.good("f 3 + ;");
+        Due.fault("f6+;", 1);
+        Due.fault("f60;", 1);
+        Due.fault("f12+;", 2);
+        Due.fault("f1;", 2);
+        Due.fault("f1 2", 3);
+        Due.fault("f1+-;", 3);
+        Due.fault("f1+", 3);
+        Due.fault("f1?;", 2);
+        Due.fault("f+;", 1);
+        Due.good("e0;");
+        Due.good("e9;");
+        Due.good("e 4 ;");
+        Due.fault("e12;", 2);
+        Due.fault("e1 2;", 3);
+        Due.fault("e;", 1);
+        Due.fault("e", 1);
+        Due.fault("e1", 2);
     }
 
     private static void jumps() {
-        good("j0;");
-        good("j29;");
-        good("j03;");
-        good("j 7 ;");
-        fault("j30;", 1);
-        fault("j30", 1);
-        fault("j300;", 1);
-        fault("j99", 1);
-        fault("j 45x", 2);
-        fault("j290;", 3);
-        fault("j030;", 3);
-        fault("j3 0;", 3);
-        fault("j3", 2);
-        fault("j", 1);
-        fault("ja;", 1);
-        good("t0 5;");
-        good("t5 29;");
-        good("t 1   2 ;");
-        fault("t05;", 2);
-        fault("t0 30;", 3);
-        fault("t0 300;", 3);
-        fault("t0 123;", 5);
-        fault("t6 1;", 1);
-        fault("t1;", 2);
-        fault("t1", 2);
-        fault("t1 2", 4);
-        fault("t1+2;", 2);
+        Due.good("j0;");
+        Due.good("j29;");
+        Due.good("j03;");
+        Due.good("j 7 ;");
+        Due.fault("j30;", 1);
+        Due.fault("j30", 1);
+        Due.fault("j300;", 1);
+        Due.fault("j99", 1);
+        Due.fault("j 45x", 2);
+        Due.fault("j290;", 3);
+        Due.fault("j030;", 3);
+        Due.fault("j3 0;", 3);
+        Due.fault("j3", 2);
+        Due.fault("j", 1);
+        Due.fault("ja;", 1);
+        Due.good("t0 5;");
+        Due.good("t5 29;");
+        Due.good("t 1   2 ;");
+        Due.fault("t05;", 2);
+        Due.fault("t0 30;", 3);
+        Due.fault("t0 300;", 3);
+        Due.fault("t0 123;", 5);
+        Due.fault("t6 1;", 1);
+        Due.fault("t1;", 2);
+        Due.fault("t1", 2);
+        Due.fault("t1 2", 4);
+        Due.fault("t1+2;", 2);
     }
 
     private static void choices() {
-        good("c1;");
-        good("c1,2,3,4;");
-        good("c1?0,2!5;");
-        good(" c 1 ? 0 , 29 ! 5 ; ");
-        good("c12?0,13;");
-        fault("c;", 1);
-        fault("c", 1);
-        fault("c1,;", 3);
-        fault("c,1;", 1);
-        fault("c1,", 3);
-        fault("c1", 2);
-        fault("c30;", 1);
-        fault("c1,30;", 3);
-        fault("c1,299;", 5);
-        fault("c1 2;", 3);
-        fault("c1?6;", 3);
-        fault("c1?;", 3);
-        fault("c1?", 3);
-        fault("c1??0;", 3);
-        fault("c1?0?1;", 4);
-        fault("c1?01;", 4);
-        fault("c1?0 1;", 5);
-        fault("c1+;", 2);
-        fault("c1,2,3,4,5;", 9);
-        fault("c1,2,3,4, 5;", 10);
-        fault("c1,2,3,4,35;", 9);
-        fault("c1,2,3,4,;", 9);
-        fault("c1,2,3,4,", 9);
-        fault("c1,2,3,4 , ", 11);
-        fault("c1,2,3,4!0,5;", 11);
+        Due.good("c1;");
+        Due.good("c1,2,3,4;");
+        Due.good("c1?0,2!5;");
+        Due.good(" c 1 ? 0 , 29 ! 5 ; ");
+        Due.good("c12?0,13;");
+        Due.fault("c;", 1);
+        Due.fault("c", 1);
+        Due.fault("c1,;", 3);
+        Due.fault("c,1;", 1);
+        Due.fault("c1,", 3);
+        Due.fault("c1", 2);
+        Due.fault("c30;", 1);
+        Due.fault("c1,30;", 3);
+        Due.fault("c1,299;", 5);
+        Due.fault("c1 2;", 3);
+        Due.fault("c1?6;", 3);
+        Due.fault("c1?;", 3);
+        Due.fault("c1?", 3);
+        Due.fault("c1??0;", 3);
+        Due.fault("c1?0?1;", 4);
+        Due.fault("c1?01;", 4);
+        Due.fault("c1?0 1;", 5);
+        Due.fault("c1+;", 2);
+        Due.fault("c1,2,3,4,5;", 9);
+        Due.fault("c1,2,3,4, 5;", 10);
+        Due.fault("c1,2,3,4,35;", 9);
+        Due.fault("c1,2,3,4,;", 9);
+        Due.fault("c1,2,3,4,", 9);
+        Due.fault("c1,2,3,4 , ", 11);
+        Due.fault("c1,2,3,4!0,5;", 11);
     }
 
     private static void tooManyNodes() {
         String most = "e0;".repeat(29);
-        good(most);
-        good(most + "   ");
-        fault(most + "e0;", 87);
-        fault(most + "  e0;", 89);
-        fault(most + "x", 87);
-        fault(most + ";", 87);
+        Due.good(most);
+        Due.good(most + "   ");
+        Due.fault(most + "e0;", 87);
+        Due.fault(most + "  e0;", 89);
+        Due.fault(most + "x", 87);
+        Due.fault(most + ";", 87);
         PictureScript x = Due.withText(most);
         Due.is("read of 29 nodes", x.read(), 29);
     }
 
     private static void oddBytes() {
-        fault("\u0000", 0);
-        fault("\u007f", 0);
-        fault("\t", 0);
-        fault("e1;\n", 3);
-        fault("e\u00001;", 1);
-        fault("S", 0);
-        fault("k", 0);
-        fault("e1\u0000", 2);
+        Due.fault("\u0000", 0);
+        Due.fault("\u007f", 0);
+        Due.fault("\t", 0);
+        Due.fault("e1;\n", 3);
+        Due.fault("e\u00001;", 1);
+        Due.fault("S", 0);
+        Due.fault("k", 0);
+        Due.fault("e1\u0000", 2);
     }
 
     private static void faultLeavesThePlay() {
