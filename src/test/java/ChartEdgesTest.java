@@ -56,13 +56,17 @@ public final class ChartEdgesTest {
             } else {
                 x.restore(0);
                 x.choose(0);
-                Due.write(x, "e2;");
+                Due.write(x, "e2;e1;e1;c1;");
             }
         }
         x.read();
         Due.way(x, 2);
         Due.noWay(x, 1);
         Due.is("situations(-1) of another script", x.situations(-1), 1);
+        PictureScript line = Due.played("sa0;c1;");
+        Due.write(line, "e1;c2;e2;");
+        line.read();
+        Due.noWay(line, 2);
     }
 
     private static void whatSituationsAre() {
@@ -211,6 +215,10 @@ public final class ChartEdgesTest {
         PictureScript never = Due.played("c2?5,1;f4+;e1;f5+;j0;");
         Due.is("whose flag no play sets", never.usable(0, 0), 0);
         Due.is("beside it", never.usable(0, 1), 1);
+        PictureScript beside = Due.played("c3,1;f0+;c0!0;e1;");
+        Due.is("whose flag is not set at the next node alone", beside.usable(2, 0), 0);
+        PictureScript before = Due.played("c1,8;f0+;f1+;f2+;f3+;f4+;f5+;e1;c8?5;");
+        Due.is("whose flag is set at the node before alone", before.usable(8, 0), 0);
         PictureScript always = Due.played("f3+;c1!3,1?3;");
         Due.is("whose flag is always set", always.usable(1, 0), 0);
         Due.is("which needs that flag", always.usable(1, 1), 1);

@@ -111,7 +111,7 @@ public final class ScriptEdgesTest {
             Due.is("flag of ?", Due.played("c0?" + flag + ";").option(0, 0, 2), flag);
             Due.is("flag of !", Due.played("c0!" + flag + ";").option(0, 0, 2), flag);
         }
-        for (char sign : "/6789:a".toCharArray()) {
+        for (char sign : "/6789:a;,".toCharArray()) {
             Due.fault("f" + sign + "+;", 1);
             Due.fault("t" + sign + " 0;", 1);
             Due.fault("c0?" + sign + ";", 3);
@@ -316,6 +316,8 @@ public final class ScriptEdgesTest {
         // The comma can stand, so that a text which ends behind it ends too early.
         Due.fault("c1,2,3,4,", 9);
         Due.fault("c1,2,3,4, ", 10);
+        Due.fault("c1,2,3,4,;", 9);
+        Due.fault("c1,2,3,4, ;", 10);
     }
 
     private static void thirtiethNode() {
