@@ -318,7 +318,7 @@ public final class PictureScript {
         }
 
         void addNode(int kind) {
-            if (nodes < NODES) {
+            if (nodes >= 0 && nodes < NODES) {
                 kinds[nodes] = kind;
                 numberCounts[nodes] = 0;
                 optionCounts[nodes] = 0;
@@ -329,21 +329,29 @@ public final class PictureScript {
         /** Adds a number to the last node. */
         void addNumber(int number) {
             int node = nodes - 1;
-            if (has(node) && numberCounts[node] < NODE_PARTS) {
-                numbers[node * NODE_PARTS + numberCounts[node]] = number;
-                numberCounts[node]++;
+            if (!has(node)) {
+                return;
+            }
+            int count = numberCounts[node];
+            if (count >= 0 && count < NODE_PARTS) {
+                numbers[node * NODE_PARTS + count] = number;
+                numberCounts[node] = count + 1;
             }
         }
 
         /** Adds an option to the last node. */
         void addOption(int target, int lock, int lockFlag) {
             int node = nodes - 1;
-            if (has(node) && optionCounts[node] < OPTIONS) {
-                int first = (node * OPTIONS + optionCounts[node]) * OPTION_PARTS;
+            if (!has(node)) {
+                return;
+            }
+            int count = optionCounts[node];
+            if (count >= 0 && count < OPTIONS) {
+                int first = (node * OPTIONS + count) * OPTION_PARTS;
                 optionParts[first + TARGET] = target;
                 optionParts[first + LOCK] = lock;
                 optionParts[first + LOCK_FLAG] = lockFlag;
-                optionCounts[node]++;
+                optionCounts[node] = count + 1;
             }
         }
 
@@ -931,7 +939,7 @@ public final class PictureScript {
         private void arrive(Script script, int situation) {
             int node = nodeOf(situation);
             if (script.shownKind(node) == SHOWN_CHOICE) {
-                if (waitingCount < SITUATIONS) {
+                if (waitingCount >= 0 && waitingCount < SITUATIONS) {
                     waiting[waitingCount] = situation;
                     waitingCount++;
                 }
